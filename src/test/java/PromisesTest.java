@@ -617,6 +617,10 @@ public final class PromisesTest {
         // teeth 6 hold the gap 5, but share nothing with 5; teeth 8, 9 do not; 10 does: days 1 and 6, of 5 1 and 1
         due("cut twin", z.cut(0, 0), 10);
         due("cut twin first", z.cut(0, 1), 1);
+        // teeth must share 3 with the one, 5 with the other one and 4 with the twins, who take both rests of 2
+        ClockTeeth v = Due.of("figure plain 2 0 0;figure plain 3 0 0;figure plain 5 0 0;figure twin 1 4 0 0;");
+        due("cut from 2 to 60", v.cut(0, 0), 60);
+        due("cut from 2 to 60, first", v.cut(0, 1), 2);
     }
 
     private static void turns() {
@@ -955,8 +959,13 @@ public final class PromisesTest {
             due("read 40000 of lane " + lane, x.read(1, lane, 0, 1), lane == 0 ? 1 : -20);
             x.forget(0);
         }
-        x.sheet(1, 2, 3);
-        due("a new row is 0", x.read(1, 2, 0, 1), 1);
+        for (int i = 0; i < 3; i++) {
+            x.sheet(1, 2, 3);
+            x.lay(1, i, 99999);
+            due("a cell that see() refuses", x.read(1, 2, 0, 1), -20);
+            x.sheet(1, 2, 3);
+            due("a new row is 0", x.read(1, 2, 0, 1), 1);
+        }
     }
 
     private static void reads() {
