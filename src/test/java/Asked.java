@@ -89,11 +89,7 @@ final class Asked {
     void feed(String text) {
         long had = answer(FACE.get("count"), 3);
         for (int at = 0; at < text.length(); at += 8) {
-            long v = 0;
-            for (int i = 0; i < 8; i++) {
-                v = v << 8 | (at + i < text.length() ? text.charAt(at + i) & 255 : 32);
-            }
-            answer(FACE.get("feed"), v);
+            answer(FACE.get("feed"), Due.eightOf(text, at));
         }
         if (text.length() % 8 != 0) {
             answer(FACE.get("end"), (int) had + text.length());

@@ -201,6 +201,10 @@ final class DoorsEdges extends Edges {
         due("stand(1, 1)", 0);
         due("stand(0, 400)", 2);
         due("stand(END, 400)", 2);
+        clock("figure plain 2 0 0;reach 0;");
+        due("stand(0, 1)", 1);
+        clock("figure plain 2 0 1;figure plain 2 0 4;figure plain 2 0 6;reach 1;");
+        due("stand(0, 1)", 8);
         clock("figure plain 2 0 3;figure plain 2 1 6;reach 3;");
         // 0 to 2 on even days, 7 and 8 on odd ones, all others on each
         due("stand(0, 10)", 0);

@@ -24,14 +24,19 @@ final class Due {
         }
     }
 
+    /** Eight bytes of a text from a place on, with blanks behind its end, as feed() wants them. */
+    static long eightOf(String text, int at) {
+        long v = 0;
+        for (int i = 0; i < 8; i++) {
+            v = v << 8 | (at + i < text.length() ? text.charAt(at + i) & 255 : ' ');
+        }
+        return v;
+    }
+
     static void feed(ClockTeeth x, String text) {
         int had = x.count(3);
         for (int at = 0; at < text.length(); at += 8) {
-            long v = 0;
-            for (int i = 0; i < 8; i++) {
-                v = v << 8 | (at + i < text.length() ? text.charAt(at + i) & 255 : 0);
-            }
-            x.feed(v);
+            x.feed(eightOf(text, at));
         }
         x.end(had + text.length());
     }

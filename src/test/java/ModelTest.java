@@ -138,10 +138,7 @@ public final class ModelTest {
             text = spoilt(text);
         }
         for (int at = 0; at < text.length(); at += 8) {
-            long v = 0;
-            for (int i = 0; i < 8; i++) {
-                v = v << 8 | (at + i < text.length() ? text.charAt(at + i) & 255 : 32);
-            }
+            long v = Due.eightOf(text, at);
             due.due("feed", x.feed(v), y.feed(v));
         }
         if (text.length() <= 400) {

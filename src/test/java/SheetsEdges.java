@@ -35,7 +35,7 @@ final class SheetsEdges extends Edges {
         due("recut(0, 7, 6)", 6);
         due("ask(2, 0, 5, 0, 0)", 2);
         due("stick(NONE, 0, 0)", 1);
-        due("see(0, 7, false)", 2);
+        due("see(0, 13, true)", 2);
         due("keep(1)", 0);
         due("back(0)", 1);
         row("rule(*)", 1, 1, 2, 3, 1, 1);
@@ -46,6 +46,17 @@ final class SheetsEdges extends Edges {
         row("rule(*)", 1, NONE, NONE, NONE, 1, 2);
         row("figure(0, *)", 0, 7, 6);
         due("count(1)", 2);
+        // what was SEEN is that of the image, each of them, though others are as many
+        due("forget(0)", 2);
+        due("see(0, 1, true)", 1);
+        due("see(0, 2, true)", 2);
+        due("error(0)", 3);
+        due("back(0)", 1);
+        due("error(0)", 0);
+        due("see(0, 3, true)", 2);
+        due("error(0)", 3);
+        due("back(1)", 1);
+        row("wheels(0, *)", 1, 7, 6);
         // one that is kept again is as it is now
         due("keep(0)", 1);
         due("forget(0)", 2);
@@ -84,6 +95,18 @@ final class SheetsEdges extends Edges {
         clock("figure plain 2 0 0;".repeat(6));
         due("keep(0)", 0);
         due("back(0)", 6);
+        // twelve SEEN, of which the last one does not fit
+        for (int i = 1; i <= 12; i++) {
+            due("see(0, " + (i < 12 ? 0 : 1) + ", true)", i);
+        }
+        due("keep(0)", 1);
+        due("forget(11)", 12);
+        due("see(0, 2, true)", 12);
+        due("error(0)", 0);
+        due("back(0)", 6);
+        due("error(0)", 3);
+        due("forget(11)", 12);
+        due("error(0)", 0);
 
         of(38, "BAD; STATE: there is none.");
         star(STATE, "back(*)", "0", "1");

@@ -357,6 +357,11 @@ final class TermsEdges extends Edges {
         clock("figure worn 3 60 59 8;figure worn 3 59 0 8;figure plain 60 59 0;figure plain 59 58 0;");
         // rounds 181 and 178 share nothing: there is a day, however far
         row("crash(*)", 2, 1, 8, 4);
+        // the day more of a worn one's round is nobody's: 9 and 19 of 21, not 8, 20 and 0; of both 1 and 3 of 11, not 0
+        clock("figure worn 2 10 9 0;figure plain 21 8 0;figure plain 21 20 0;figure plain 21 0 0;figure both 1 2 10 1 1;figure plain 11 0 1;");
+        row("crash(*)", 0, 0, 0, 0, 0, 0);
+        clock("figure plain 21 19 0;figure plain 21 9 0;figure worn 2 10 9 0;figure plain 11 3 1;figure plain 11 1 1;figure both 1 2 10 1 1;");
+        row("crash(*)", 4, 4, 3, 32, 32, 24);
     }
 
     private void seen() {
@@ -394,6 +399,11 @@ final class TermsEdges extends Edges {
         due("see(2, 0, true)", 3);
         due("see(2, 1, true)", 4);
         each(1, "error(0)", "error(1)", "error(2)");
+        // behind TEETH less 1 it is 0, which is not TEETH by a worn one's round: 0 of 21 and not 10, 0 of 7 and not 6
+        clock("figure worn 2 10 9 0;figure both 1 3 6 5 0;");
+        due("see(0, 0, true)", 1);
+        due("see(1, 0, true)", 2);
+        each(1, "error(0)", "error(1)");
 
         of(TERMS, "A plain wheel FITS a FIGURE, if he would FIT with it.");
         clock("figure both 2 3 10 9 0;");
@@ -419,6 +429,15 @@ final class TermsEdges extends Edges {
         // round 7: of 9 and 4 teeth rounds 10 and 5, but 4 teeth are no more than the gap; days 1 and 6 are 1 of 5
         row("cut(3, *)", 9, 1);
         row("cut(2, *)", 6, 0);
+        // 1 of 7 alone is free, 1 itself is not, nor are 9 and 19: 8, the day more of the worn one's round, is
+        clock("figure plain 21 9 0;figure worn 2 10 9 0;figure plain 21 1 0;figure twin 1 7 2 0;figure twin 1 7 4 0;figure twin 1 7 6 0;");
+        row("cut(0, *)", 21, 8);
+        // 5 of 7 alone is free, and the day more of his own round does not matter
+        clock("figure worn 1 6 0 0;figure plain 7 0 0;figure twin 1 7 1 0;figure twin 1 7 3 0;figure plain 7 6 0;");
+        row("cut(0, *)", 6, 5);
+        // one tooth would do, by a round of 2, but 2 are the fewest: 3 teeth, a round of 4
+        clock("figure worn 1 2 0 0;figure plain 2 1 0;");
+        row("cut(0, *)", 3, 0);
         // 61 teeth would do, as the other one's round is 61
         clock("figure plain 60 0 0;figure worn 1 60 0 0;");
         row("cut(0, *)", NONE, NONE);

@@ -207,6 +207,13 @@ final class TextEdges extends Edges {
         fails("sticks 0 0 0;", 2, 0);
         fails("reac 1;", 2, 0);
         fails("votes 0 0 5 0 0;", 2, 0);
+        // a NAME that is another one by its first sign alone, by its last one alone
+        for (String name : new String[] {"bigure", "figurf", "ttick", "sticj", "peach", "reaci", "note", "votf"}) {
+            fails(name + " 1 0 5 0 0;", 2, 0);
+        }
+        for (String name : new String[] {"blain", "plaim", "born", "worm", "bwin", "twim", "moth", "bots"}) {
+            fails("figure " + name + " 1 1 5 0 0;", 2, 7);
+        }
         fails("figure figure 5 0 0;", 2, 7);
         fails("figure plains 5 0 0;", 2, 7);
         fails("figure plai 5 0 0;", 2, 7);

@@ -70,6 +70,10 @@ final class WheelsEdges extends Edges {
         clock("figure plain 2 0 0;figure twin 1 2 0 0;");
         star(NONE, "turn(*)", "0", "1");
         star(BAD, "turn(*)", NO_FIGURE);
+        // FIRST 0 is the last one left, until another one, his own GAP, another one's GAP takes it
+        clock("figure plain 2 1 0;figure plain 2 1 0;figure plain 4 0 0;figure twin 1 2 1 1;figure plain 2 1 1;");
+        star(NONE, "turn(*)", "0", "3", "4");
+        star(NONE, "cut(3, *)", "0", "1");
         // 2 of 3 would be free, but FIRST is less than the 2 TEETH
         clock("figure worn 1 2 0 0;figure twin 1 3 0 0;");
         due("turn(0)", NONE);
@@ -117,6 +121,17 @@ final class WheelsEdges extends Edges {
         row("figure(0, *)", 0, 2, 0);
         due("count(0)", 2);
         row("mend(*)", 1, 0);
+        // the one can be (4 teeth at 2), the twin, who has even days and odd ones, can not: ahead of him and behind him
+        clock("figure plain 2 0 0;figure twin 1 4 0 0;");
+        row("mend(*)", 1, 0);
+        clock("figure twin 1 4 0 0;figure plain 2 0 0;");
+        row("mend(*)", 1, 0);
+        // nothing is changed: neither TEETH nor FIRST of those who would be CUT
+        clock("figure plain 6 5 0;figure both 1 4 5 4 0;figure plain 5 4 0;");
+        row("mend(*)", 2, 0);
+        row("figure(0, *)", 0, 6, 5, 0, NONE, NONE, 6);
+        row("figure(1, *)", 3, 5, 4, 0, 1, 4, 6);
+        row("figure(2, *)", 0, 5, 4, 0, NONE, NONE, 5);
         // nobody can be: one of them comes out each day
         clock("figure twin 1 2 0 0;figure twin 1 2 0 0;figure plain 7 3 0;");
         row("mend(*)", 0, 3);
@@ -195,6 +210,8 @@ final class WheelsEdges extends Edges {
 
         of(29, "BAD; FULL.");
         due("ask(0, 0, 5, 0, 0)", BAD);
+        clock("figure plain 6 0 0;");
+        star(BAD, "ask(*, 0, 5, 0, 0)", "100", "-1", "MIN", "MAX");
         clock("figure plain 6 0 0;figure plain 6 0 1;vote 5 0 5 0 0;");
         star(BAD, "ask(*, 0, 5, 0, 0)", "4", "0", "100", "-1", "MIN", "MAX");
         star(BAD, "ask(5, *, 5, 0, 0)", NO_FIGURE);
